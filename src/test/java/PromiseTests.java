@@ -38,37 +38,9 @@ public final class PromiseTests {
     due.is(what + ", no joint more", arch.told(want.length / 4, 0), TOLD_BAD);
   }
 
-  /** A sheet that holds these items, in the narrowest lane. */
-  private static void put(StandingArch arch, int sheet, int lane, int... items) {
-    arch.sheet(sheet, lane, items.length);
-    for (int i = 0; i < items.length; i++) arch.item(sheet, lane, i, items[i]);
-  }
-
-  /** Joints at the document's places, with edges l, u and loads as given. */
-  private static StandingArch arch(int[] l, int[] u, int[] w) {
-    StandingArch arch = new StandingArch();
-    arch.joints(l.length - 1);
-    for (int i = 0; i < l.length; i++) arch.edges(i, l[i], u[i]);
-    for (int i = 1; i < l.length - 1; i++) arch.load(i, w[i]);
-    return arch;
-  }
-
   private void fraction(String what, long above, long below, long wantAbove, long wantBelow) {
     due.is(what + " above", above, wantAbove);
     due.is(what + " below", below, wantBelow);
-  }
-
-  private static StandingArch pointed() {
-    return arch(new int[] {0, 4, 0}, new int[] {1, 5, 1}, new int[] {0, 4, 0});
-  }
-
-  private static StandingArch round() {
-    return arch(new int[] {0, 5, 6, 5, 0}, new int[] {1, 7, 8, 7, 1}, new int[] {0, 3, 4, 3, 0});
-  }
-
-  /** Straight edges that must sag in the middle: no push that is not below 0 does that. */
-  private static StandingArch sagging() {
-    return arch(new int[] {2, 0, 2}, new int[] {3, 1, 3}, new int[] {0, 1, 0});
   }
 
   // ---- 1 joints
@@ -92,7 +64,7 @@ public final class PromiseTests {
     for (int i = 0; i <= 6; i++) due.is("six stones, x", arch.told(i, 0), 20 * i / 6);
     arch.edges(3, -5, 5);
     arch.load(3, 7);
-    put(arch, 1, 1, 4, 5);
+    Arches.put(arch, 1, 1, 4, 5);
     for (int n : new int[] {LEAST, -1, 0, 1, 7, GREATEST}) due.is("joints(" + n + ")", arch.joints(n), -1);
     due.is("refused joints change nothing, n", arch.told(6, 0), 20);
     due.is("refused joints change nothing, l", arch.told(3, 1), -5);
@@ -163,7 +135,7 @@ public final class PromiseTests {
     for (int lane : new int[] {-1, 3, LEAST, GREATEST}) due.is("sheet(0, " + lane + ", -1)", arch.sheet(0, lane, -1), -1);
     due.is("what is refused is not held", arch.drop(1), -11);
     due.is("what is refused does not change a row", arch.drop(0), 28);
-    put(arch, 2, 1, 0, 0, 1, 0, 10, 0, 1, 5, 20, 0, 1, 0);
+    Arches.put(arch, 2, 1, 0, 0, 1, 0, 10, 0, 1, 5, 20, 0, 1, 0);
     due.is("read of a row", arch.read(2, 1, 0), 1);
     due.is("sheet(2, 1, 12) anew", arch.sheet(2, 1, 12), 12);
     due.is("a new row's items are 0", arch.read(2, 1, 0), -2);
@@ -199,14 +171,14 @@ public final class PromiseTests {
     for (int bad : new int[] {-1, 3, LEAST, GREATEST}) due.is("BAD is ahead of NULL, lane", arch.item(3, bad, 0, 1), -1);
     // 256 + 5 has 5 as its lowest byte, 255 has -1: so a row of bytes tells an arch that rows of ints or longs do not.
     for (int lane = 0; lane < 3; lane++) {
-      put(arch, lane, lane, 0, 255, 256 + 5, 0, 256 + 10, 0, 1, 512 + 7, 20, 0, 1, 0);
+      Arches.put(arch, lane, lane, 0, 255, 256 + 5, 0, 256 + 10, 0, 1, 512 + 7, 20, 0, 1, 0);
       due.is("read of lane " + lane, arch.read(lane, lane, 0), lane == 0 ? 1 : -2);
     }
     joints("lowest bits", arch, 0, -1, 5, 0, 10, 0, 1, 7, 20, 0, 1, 0);
-    put(arch, 0, 0, 0, 128, 1, 0, 10, 0, 1, 0, 20, 0, 1, 0);
+    Arches.put(arch, 0, 0, 0, 128, 1, 0, 10, 0, 1, 0, 20, 0, 1, 0);
     due.is("128 is -128 as a byte", arch.read(0, 0, 0), -2);
     for (int lane = 1; lane < 3; lane++) {
-      put(arch, lane, lane, 0, -3, -2, 0, 10, -1, 1, 2, 20, 0, 1, 0);
+      Arches.put(arch, lane, lane, 0, -3, -2, 0, 10, -1, 1, 2, 20, 0, 1, 0);
       due.is("read of lane " + lane + ", below 0", arch.read(lane, lane, 0), 1);
       due.is("it keeps its sign", arch.told(0, 1), -3);
     }
@@ -215,7 +187,7 @@ public final class PromiseTests {
   private void promise9Read() {
     StandingArch arch = new StandingArch();
     for (int lane = 0; lane < 3; lane++) {
-      put(arch, lane, lane, 99, 0, -20, 20, 10, 1, -1, -1, 10, 2, 3, 4, 0, 99);
+      Arches.put(arch, lane, lane, 99, 0, -20, 20, 10, 1, -1, -1, 10, 2, 3, 4, 0, 99);
       due.is("read from 1", arch.read(lane, lane, 1), 1);
       joints("read", arch, 0, -20, 20, 0, 1, -1, -1, 10, 2, 3, 4, 0);
       arch.joints(2);
@@ -228,7 +200,7 @@ public final class PromiseTests {
       items[4 * i + 2] = i;
       items[4 * i + 3] = i + 1;
     }
-    put(arch, 3, 0, items);
+    Arches.put(arch, 3, 0, items);
     due.is("read of 28 items", arch.read(3, 0, 0), 1);
     items[3] = 0;
     items[27] = 0;
@@ -245,7 +217,7 @@ public final class PromiseTests {
     StandingArch arch = new StandingArch();
     due.is("NULL", arch.read(0, 0, -1), -11);
     int[] good = {0, -1, 2, 9, 10, 3, 5, 4, 20, 0, 1, 10};
-    put(arch, 0, 1, good);
+    Arches.put(arch, 0, 1, good);
     for (int bad : new int[] {-1, 4, LEAST, GREATEST}) due.is("BAD sheet", arch.read(bad, 1, 0), -1);
     for (int bad : new int[] {-1, 3, LEAST, GREATEST}) due.is("BAD lane", arch.read(0, bad, 0), -1);
     due.is("BAD is ahead of NULL", arch.read(1, 3, 0), -1);
@@ -282,16 +254,16 @@ public final class PromiseTests {
   // ---- 2 lines
 
   private void promise11Stands() {
-    due.is("pointed", pointed().stands(), 1);
-    due.is("round", round().stands(), 1);
-    due.is("sagging", sagging().stands(), 0);
-    StandingArch arch = arch(new int[] {0, 3, 4, 3, 0}, new int[] {0, 3, 4, 3, 0}, new int[] {0, 1, 1, 1, 0});
+    due.is("pointed", Arches.pointed().stands(), 1);
+    due.is("round", Arches.round().stands(), 1);
+    due.is("sagging", Arches.sagging().stands(), 0);
+    StandingArch arch = Arches.arch(new int[] {0, 3, 4, 3, 0}, new int[] {0, 3, 4, 3, 0}, new int[] {0, 1, 1, 1, 0});
     due.is("as thin as the line", arch.stands(), 1);
     arch.load(2, 2);
     due.is("as thin as another line", arch.stands(), 0);
     arch.load(2, 0);
     due.is("the middle unloaded", arch.stands(), 0);
-    StandingArch bare = pointed();
+    StandingArch bare = Arches.pointed();
     bare.load(1, 0);
     due.is("nothing bends an unloaded line", bare.stands(), 0);
     bare.edges(1, 1, 5);
@@ -299,7 +271,7 @@ public final class PromiseTests {
   }
 
   private void promise12Thrust() {
-    StandingArch arch = pointed();
+    StandingArch arch = Arches.pointed();
     fraction("pointed, least", arch.thrust(0, 0), arch.thrust(0, 1), 4, 1);
     fraction("pointed, most", arch.thrust(1, 0), arch.thrust(1, 1), 20, 3);
     arch.edges(1, 1, 5);
@@ -312,29 +284,29 @@ public final class PromiseTests {
     StandingArch free = new StandingArch();
     fraction("k has no greatest", free.thrust(0, 0), free.thrust(0, 1), -4, -4);
     fraction("its least is 0", free.thrust(1, 0), free.thrust(1, 1), -4, -4);
-    fraction("sagging", sagging().thrust(0, 0), sagging().thrust(1, 1), -2, -2);
+    fraction("sagging", Arches.sagging().thrust(0, 0), Arches.sagging().thrust(1, 1), -2, -2);
     for (int bad : new int[] {-1, 2, LEAST, GREATEST}) {
       due.is("thrust(" + bad + ", 0)", arch.thrust(bad, 0), -1);
-      due.is("thrust(0, " + bad + ")", sagging().thrust(0, bad), -1);
+      due.is("thrust(0, " + bad + ")", Arches.sagging().thrust(0, bad), -1);
     }
   }
 
   private void promise13Height() {
-    StandingArch arch = arch(new int[] {0, 5, 6, 5, 0}, new int[] {1, 7, 8, 7, 1}, new int[] {0, 10, 4, 3, 0});
+    StandingArch arch = Arches.arch(new int[] {0, 5, 6, 5, 0}, new int[] {1, 7, 8, 7, 1}, new int[] {0, 10, 4, 3, 0});
     long[][] line = {{0, 1}, {7, 1}, {22, 3}, {5, 1}, {2, 3}};
     for (int i = 0; i <= 4; i++) fraction("height of " + i, arch.height(i, 0), arch.height(i, 1), line[i][0], line[i][1]);
-    StandingArch below = arch(new int[] {-3, -20, -3}, new int[] {-3, -2, -2}, new int[] {0, 3, 0});
+    StandingArch below = Arches.arch(new int[] {-3, -20, -3}, new int[] {-3, -2, -2}, new int[] {0, 3, 0});
     fraction("of many the least b", below.height(2, 0), below.height(2, 1), -3, 1);
     fraction("a height below 0", below.height(1, 0), below.height(1, 1), -2, 1);
     // Joints 1, 2 alone fix the push; a is as low as 1, 2 let it be.
-    StandingArch least = arch(new int[] {-20, 0, 10, -20}, new int[] {20, 0, 10, 20}, new int[] {0, 0, 1, 0});
+    StandingArch least = Arches.arch(new int[] {-20, 0, 10, -20}, new int[] {20, 0, 10, 20}, new int[] {0, 0, 1, 0});
     fraction("least a", least.height(0, 0), least.height(0, 1), -60, 7);
-    StandingArch still = arch(new int[] {0, 0, 0}, new int[] {0, 0, 0}, new int[] {0, 5, 0});
+    StandingArch still = Arches.arch(new int[] {0, 0, 0}, new int[] {0, 0, 0}, new int[] {0, 5, 0});
     fraction("the greatest k is 0", still.height(1, 0), still.height(1, 1), 0, 1);
     StandingArch free = new StandingArch();
     fraction("k has no greatest", free.height(0, 0), free.height(2, 1), HEIGHT_NONE, HEIGHT_NONE);
-    fraction("it does not stand", sagging().height(0, 0), sagging().height(2, 1), HEIGHT_NOT, HEIGHT_NOT);
-    for (int bad : new int[] {-1, 3, 7, LEAST, GREATEST}) due.is("height(" + bad + ", 0)", sagging().height(bad, 0), HEIGHT_BAD);
+    fraction("it does not stand", Arches.sagging().height(0, 0), Arches.sagging().height(2, 1), HEIGHT_NOT, HEIGHT_NOT);
+    for (int bad : new int[] {-1, 3, 7, LEAST, GREATEST}) due.is("height(" + bad + ", 0)", Arches.sagging().height(bad, 0), HEIGHT_BAD);
     for (int bad : new int[] {-1, 2, LEAST, GREATEST}) due.is("height(0, " + bad + ")", free.height(0, bad), HEIGHT_BAD);
   }
 
@@ -344,32 +316,32 @@ public final class PromiseTests {
   }
 
   private void promise14Bar() {
-    StandingArch arch = round();
+    StandingArch arch = Arches.round();
     for (int i = -1; i < 4; i++) due.is("bar of what stands", arch.bar(i), -2);
     for (int bad : new int[] {-2, 4, LEAST, GREATEST}) {
       due.is("bar(" + bad + ") of what stands", arch.bar(bad), -1);
-      due.is("bar(" + bad + ") of what does not", sagging().bar(bad), -1);
+      due.is("bar(" + bad + ") of what does not", Arches.sagging().bar(bad), -1);
     }
-    bars("sagging", sagging(), 0, 3, 4, 14);
-    StandingArch unloaded = sagging();
+    bars("sagging", Arches.sagging(), 0, 3, 4, 14);
+    StandingArch unloaded = Arches.sagging();
     unloaded.load(1, 0);
     bars("sagging, without a load", unloaded, 0, 3, 4);
-    StandingArch high = pointed();
+    StandingArch high = Arches.pointed();
     high.load(1, 0);
     bars("pointed, without a load", high, 1, 2, 5);
-    bars("the left too low", arch(new int[] {0, 2, 3, 0}, new int[] {0, 2, 3, 0}, new int[] {0, 1, 1, 0}), 0, 3, 4, 7);
-    bars("the left too high", arch(new int[] {0, 3, 2, 0}, new int[] {0, 3, 2, 0}, new int[] {0, 1, 1, 0}), 1, 2, 5, 6);
+    bars("the left too low", Arches.arch(new int[] {0, 2, 3, 0}, new int[] {0, 2, 3, 0}, new int[] {0, 1, 1, 0}), 0, 3, 4, 7);
+    bars("the left too high", Arches.arch(new int[] {0, 3, 2, 0}, new int[] {0, 3, 2, 0}, new int[] {0, 1, 1, 0}), 1, 2, 5, 6);
     // 1, 2, 5, 6 bar as well: the first set by numbers is told.
-    bars("the middle too heavy", arch(new int[] {0, 3, 4, 3, 0}, new int[] {0, 3, 4, 3, 0}, new int[] {0, 1, 2, 1, 0}), 0, 5, 6, 9);
-    bars("the middle too light", arch(new int[] {0, 5, 9, 5, 0}, new int[] {1, 6, 10, 6, 1}, new int[] {0, 9, 1, 9, 0}), 0, 3, 4, 7);
-    StandingArch three = round();
+    bars("the middle too heavy", Arches.arch(new int[] {0, 3, 4, 3, 0}, new int[] {0, 3, 4, 3, 0}, new int[] {0, 1, 2, 1, 0}), 0, 5, 6, 9);
+    bars("the middle too light", Arches.arch(new int[] {0, 5, 9, 5, 0}, new int[] {1, 6, 10, 6, 1}, new int[] {0, 9, 1, 9, 0}), 0, 3, 4, 7);
+    StandingArch three = Arches.round();
     three.load(1, 10);
     three.load(3, 0);
     bars("three are fewer than four", three, 5, 6, 9);
   }
 
   private void promise15Fits() {
-    StandingArch arch = pointed();
+    StandingArch arch = Arches.pointed();
     due.is("the least thrust's line", arch.fits(0, 0, 1, 4), 1);
     due.is("beyond it", arch.fits(0, 0, 251, 1000), 0);
     due.is("the most thrust's line", arch.fits(1, 1, 3, 20), 1);
@@ -384,7 +356,7 @@ public final class PromiseTests {
     }
     for (int bad : new int[] {-1, 1001, LEAST, GREATEST}) due.is("above " + bad, arch.fits(0, 0, bad, 4), -1);
     for (int bad : new int[] {0, -1, 1001, LEAST, GREATEST}) due.is("below " + bad, arch.fits(0, 0, 1, bad), -1);
-    StandingArch wide = arch(new int[] {-20, -20, -20}, new int[] {20, 20, 20}, new int[] {0, 10, 0});
+    StandingArch wide = Arches.arch(new int[] {-20, -20, -20}, new int[] {20, 20, 20}, new int[] {0, 10, 0});
     due.is("a, b 20", wide.fits(20, 20, 0, 1), 1);
     due.is("a, b -20", wide.fits(-20, -20, 4, 5), 1);
     due.is("a, b -20, k beyond", wide.fits(-20, -20, 801, 1000), 0);
@@ -393,20 +365,20 @@ public final class PromiseTests {
   // ---- 3 what may become of it
 
   private void promise16Factor() {
-    fraction("round", round().factor(0), round().factor(1), 6, 13);
-    fraction("pointed", pointed().factor(0), pointed().factor(1), 0, 1);
-    fraction("sagging", sagging().factor(0), sagging().factor(1), 2, 1);
-    StandingArch arch = round();
+    fraction("round", Arches.round().factor(0), Arches.round().factor(1), 6, 13);
+    fraction("pointed", Arches.pointed().factor(0), Arches.pointed().factor(1), 0, 1);
+    fraction("sagging", Arches.sagging().factor(0), Arches.sagging().factor(1), 2, 1);
+    StandingArch arch = Arches.round();
     arch.load(1, 10);
     arch.load(3, 0);
     fraction("beyond 1", arch.factor(0), arch.factor(1), 11, 7);
-    StandingArch thin = arch(new int[] {0, 3, 4, 3, 0}, new int[] {0, 3, 4, 3, 0}, new int[] {0, 1, 1, 1, 0});
+    StandingArch thin = Arches.arch(new int[] {0, 3, 4, 3, 0}, new int[] {0, 3, 4, 3, 0}, new int[] {0, 1, 1, 1, 0});
     fraction("no thickness, but on the line", thin.factor(0), thin.factor(1), 0, 1);
     thin.load(2, 2);
     fraction("no thickness, off the line", thin.factor(0), thin.factor(1), -4, -4);
     thin.edges(2, 4, 6);
     fraction("one joint has some", thin.factor(0), thin.factor(1), 1, 2);
-    StandingArch bare = arch(new int[] {0, 2, 0}, new int[] {0, 2, 0}, new int[] {0, 0, 0});
+    StandingArch bare = Arches.arch(new int[] {0, 2, 0}, new int[] {0, 2, 0}, new int[] {0, 0, 0});
     fraction("no thickness, no load, not straight", bare.factor(0), bare.factor(1), -4, -4);
     bare.edges(0, -1, 1);
     fraction("some thickness at 0", bare.factor(0), bare.factor(1), 4, 1);
@@ -414,26 +386,26 @@ public final class PromiseTests {
   }
 
   private void promise17Harms() {
-    due.is("round, 1", round().harms(1), 2);
-    due.is("round, 10: like ones, the first", round().harms(10), 1);
-    StandingArch arch = arch(new int[] {0, 4, 7, 8, 7, 4, 0}, new int[] {2, 8, 11, 12, 11, 8, 2}, new int[] {0, 2, 3, 5, 3, 2, 0});
+    due.is("round, 1", Arches.round().harms(1), 2);
+    due.is("round, 10: like ones, the first", Arches.round().harms(10), 1);
+    StandingArch arch = Arches.arch(new int[] {0, 4, 7, 8, 7, 4, 0}, new int[] {2, 8, 11, 12, 11, 8, 2}, new int[] {0, 2, 3, 5, 3, 2, 0});
     due.is("six stones, 1", arch.harms(1), 3);
     due.is("six stones, 10", arch.harms(10), 5);
     due.is("nothing is changed", arch.told(5, 3), 2);
-    due.is("an arch of two", pointed().harms(10), 1);
+    due.is("an arch of two", Arches.pointed().harms(10), 1);
     // Only one more at joint 2 makes the line of these edges.
-    StandingArch thin = arch(new int[] {0, 3, 4, 3, 0}, new int[] {0, 3, 4, 3, 0}, new int[] {0, 1, 0, 1, 0});
+    StandingArch thin = Arches.arch(new int[] {0, 3, 4, 3, 0}, new int[] {0, 3, 4, 3, 0}, new int[] {0, 1, 0, 1, 0});
     due.is("no factor at the first", thin.harms(1), 1);
-    StandingArch late = arch(new int[] {0, 3, 4, 3, 0}, new int[] {0, 3, 4, 3, 0}, new int[] {0, 0, 1, 1, 0});
+    StandingArch late = Arches.arch(new int[] {0, 3, 4, 3, 0}, new int[] {0, 3, 4, 3, 0}, new int[] {0, 0, 1, 1, 0});
     due.is("no factor behind the first", late.harms(1), 2);
     for (int bad : new int[] {0, -1, 11, LEAST, GREATEST}) due.is("harms(" + bad + ")", arch.harms(bad), -1);
   }
 
   private void promise18Falls() {
-    due.is("round", round().falls(), 0);
-    due.is("sagging", sagging().falls(), 0);
+    due.is("round", Arches.round().falls(), 0);
+    due.is("sagging", Arches.sagging().falls(), 0);
     due.is("a new arch", new StandingArch().falls(), -4);
-    StandingArch flat = arch(new int[] {0, 1, 0, 1, 0}, new int[] {1, 2, 1, 2, 1}, new int[] {0, 9, 0, 9, 0});
+    StandingArch flat = Arches.arch(new int[] {0, 1, 0, 1, 0}, new int[] {1, 2, 1, 2, 1}, new int[] {0, 9, 0, 9, 0});
     due.is("a straight line holds at every step", flat.falls(), -4);
     due.is("nothing is changed", flat.told(1, 3), 9);
     flat.edges(2, 0, 0);
