@@ -25,6 +25,7 @@ public final class BoundaryBecomeTests extends Boundary {
     says("THINNED by t (0 or more)");
     factor("its middle is on a line", raised(0), 0, 1);
     factor("without any thickness, on a line", Arches.thread(), 0, 1);
+    factor("without any thickness or load, straight", Arches.arch(new int[] {1, 2, 3}, new int[] {1, 2, 3}, new int[] {0, 0, 0}), 0, 1);
     factor("a load, and much room", Arches.pointed(), 0, 1);
     factor("the widest", Arches.arch(new int[] {-20, -20, -20}, new int[] {20, 20, 20}, new int[] {0, 10, 0}), 0, 1);
   }
@@ -49,6 +50,16 @@ public final class BoundaryBecomeTests extends Boundary {
     factor("two above, half a thickness and three halves", arch, 1, 1);
     arch.edges(1, 0, 4);
     factor("three halves above, half a thickness and two", arch, 3, 5);
+  }
+
+  private void factorsOfTheLeastThatIsOff() {
+    says("THE FACTOR is the least t by which the arch STANDS");
+    StandingArch arch = Arches.arch(new int[] {0, 0, 0}, new int[] {0, 1, 1}, new int[] {0, 0, 0});
+    arch.at(1, 1);
+    arch.at(2, 2);
+    factor("a quarter off, of three quarters", arch, 1, 3);
+    StandingArch many = Arches.arch(new int[] {4, 0, 2, 5}, new int[] {4, 2, 3, 5}, new int[] {0, 0, 0, 0});
+    factor("three joints need more than other three", many, 43, 10);
   }
 
   private void factorsHaveNoCommonDivisor() {
@@ -126,6 +137,27 @@ public final class BoundaryBecomeTests extends Boundary {
     is("1 more than 10", arch.harms(1), 2);
     is("10 more than 10", arch.harms(10), 2);
     is("the load stays", arch.told(2, 3), 10);
+  }
+
+  private void harmsAtNoJointThatIsNotInner() {
+    says("A MOVING LOAD of p (1 .. 10) more at each inner joint in turn");
+    StandingArch arch = raised(19);
+    factor("much without a load", arch, 19, 1);
+    is("a load at joint 1 does good, and none is at 0 or 2", arch.harms(1), 1);
+    is("10", arch.harms(10), 1);
+  }
+
+  private void harmsOfOneArchBehindAnother() {
+    says("it HARMS most where THE FACTOR is greatest");
+    StandingArch arch = Arches.arch(new int[] {0, 5, 0, 0}, new int[] {1, 7, 1, 1}, new int[] {0, 10, 10, 0});
+    is("a factor of more than 3", arch.harms(10), 2);
+    int[] l = {0, 4, 7, 8, 7, 4, 0}, u = {2, 8, 11, 12, 11, 8, 2}, w = {0, 2, 3, 5, 3, 2, 0};
+    arch.joints(6);
+    for (int i = 0; i <= 6; i++) {
+      arch.edges(i, l[i], u[i]);
+      arch.load(i, w[i]);
+    }
+    is("one of less", arch.harms(1), 3);
   }
 
   // ---- 18 falls

@@ -156,12 +156,14 @@ public final class BoundaryJointsTests extends Boundary {
     says("NOT: they would not rise");
     StandingArch arch = new StandingArch();
     arch.joints(4);
+    is("behind all joints", arch.at(1, 20), NOT);
     for (int i = 2; i <= 3; i++) {
       int ahead = 5 * (i - 1), behind = 5 * (i + 1);
       is("like the joint ahead of " + i, arch.at(i, ahead), NOT);
       is("ahead of the joint ahead of " + i, arch.at(i, ahead - 1), NOT);
       is("just behind the joint ahead of " + i, arch.at(i, ahead + 1), 5 * i);
       is("like the joint behind " + i, arch.at(i, behind), NOT);
+      is("behind the joint behind " + i, arch.at(i, Math.min(20, behind + 1)), NOT);
       is("just ahead of the joint behind " + i, arch.at(i, behind - 1), ahead + 1);
       is("back", arch.at(i, 5 * i), behind - 1);
     }
@@ -702,6 +704,13 @@ public final class BoundaryJointsTests extends Boundary {
       for (int i = 1; i < n; i++) arch.load(i, 10);
       is("m(0)", arch.told(0, 4), 0);
       is("m(n)", arch.told(n, 4), 0);
+    }
+    StandingArch arch = new StandingArch();
+    for (int n = 6; n >= 2; n--) {
+      arch.joints(n);
+      for (int i = 1; i < n; i++) arch.load(i, 10);
+      is("m(n - 1) where there were more joints", arch.told(n - 1, 4) > 0 ? 1 : 0, 1);
+      is("m(n) where there were more joints", arch.told(n, 4), 0);
     }
   }
 

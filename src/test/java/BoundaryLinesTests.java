@@ -60,6 +60,18 @@ public final class BoundaryLinesTests extends Boundary {
     is("at a straight line", arch.stands(), 1);
   }
 
+  private void anArchThatOnlyJustDoesNotStand() {
+    says("The arch STANDS, if some LINE FITS.");
+    int[][][] arches = {{{2, 1, 4, 2}, {4, 3, 6, 4}, {0, 1, 2, 0}}, {{5, 4, 2, 2}, {6, 6, 3, 3}, {0, 2, 1, 0}},
+      {{3, 5, 4, 5}, {3, 7, 5, 6}, {0, 2, 1, 0}}, {{5, 1, 2, 0}, {5, 3, 2, 2}, {0, 1, 2, 0}}, {{4, 3, 2, 5}, {6, 5, 4, 5}, {0, 1, 1, 0}}};
+    int[][] factors = {{20, 19}, {21, 20}, {30, 23}, {21, 13}, {40, 27}};
+    for (int t = 0; t < arches.length; t++) {
+      StandingArch arch = Arches.arch(arches[t][0], arches[t][1], arches[t][2]);
+      is("arch " + t + " stands", arch.stands(), 0);
+      fraction("the factor of arch " + t, arch.factor(0), arch.factor(1), factors[t][0], factors[t][1]);
+    }
+  }
+
   private void loadsOfTheEndsCountForNothing() {
     says("that of 0, n counts for nothing");
     is("loads at the ends alone", pointedWith(10, 0, 10).stands(), 0);
@@ -242,6 +254,20 @@ public final class BoundaryLinesTests extends Boundary {
     fraction("b", arch.height(3, 0), arch.height(3, 1), -20, 1);
   }
 
+  private void heightsOfOneArchBehindAnother() {
+    says("The height of THE LINE of the LEAST at a joint");
+    int[][][] arches = {{{3, 5, 5}, {4, 6, 5}, {0, 2, 0}, {3, 6, 5}}, {{4, 2, 1}, {6, 4, 3}, {0, 1, 0}, {4, 4, 1}},
+      {{0, 4, 4}, {0, 5, 4}, {0, 2, 0}, {0, 5, 4}}};
+    StandingArch one = new StandingArch();
+    for (int[][] next : arches) {
+      for (int i = 0; i <= 2; i++) one.edges(i, next[0][i], next[1][i]);
+      one.load(1, next[2][1]);
+      for (int i = 0; i <= 2; i++) fraction("in the same object, height of " + i, one.height(i, 0), one.height(i, 1), next[3][i], 1);
+      StandingArch fresh = Arches.arch(next[0], next[1], next[2]);
+      for (int i = 2; i >= 0; i--) fraction("in a new object, height of " + i, fresh.height(i, 0), fresh.height(i, 1), next[3][i], 1);
+    }
+  }
+
   // ---- 14 bar
 
   private void bars(String what, StandingArch arch, int... want) {
@@ -292,14 +318,19 @@ public final class BoundaryLinesTests extends Boundary {
     bars("0, 3, 6, 14 is ahead of 0, 5, 6, 14", three(new int[] {4, 3, 1, 4}, new int[] {4, 3, 1, 4}, 3, 3), 0, 3, 6, 14);
     bars("0, 5, 6, 14 is ahead of 1, 2, 5, 6", three(new int[] {0, 3, 1, 5}, new int[] {1, 4, 1, 6}, 2, 1), 0, 5, 6, 14);
     bars("1, 2, 5, 6 alone", three(new int[] {1, 5, 3, 0}, new int[] {2, 5, 3, 0}, 2, 1), 1, 2, 5, 6);
+    bars("the last one at joint 4", Arches.arch(new int[] {4, 1, 3, 3, 2}, new int[] {6, 3, 5, 4, 2}, new int[] {0, 1, 1, 1, 0}), 0, 3, 4, 9);
+    bars("the last one ahead of joint 4", Arches.arch(new int[] {1, 2, 4, 1, 2}, new int[] {3, 3, 4, 2, 3}, new int[] {0, 2, 2, 1, 0}), 0, 3, 4, 7);
+    bars("2, 7, 8 is ahead of 3, 4, 7", Arches.arch(new int[] {4, 5, 4, 1, 0}, new int[] {5, 5, 4, 1, 1}, new int[] {0, 1, 0, 0, 0}), 2, 7, 8);
     bars("0, 3, 4, 7 alone", three(new int[] {3, 3, 5, 0}, new int[] {3, 4, 6, 1}, 2, 3), 0, 3, 4, 7);
   }
 
   private void barsNeed14ForAPushBelow0() {
     says("k may be below 0 without 14");
     bars("0, 5, 6 bar with 14 alone", three(new int[] {4, 3, 2, 3}, new int[] {4, 4, 3, 4}, 1, 3), 0, 5, 6, 14);
+    bars("1, 2, 7 do not bar with 14: a push lifts the line",
+      Arches.arch(new int[] {4, 5, 5, 4, 3}, new int[] {5, 5, 5, 4, 4}, new int[] {0, 2, 2, 2, 0}), 1, 4, 7, 8);
     StandingArch arch = Arches.sagging();
-    bars("a load that could lift the line below", arch, 0, 3, 4, 14);
+    bars("a load that could only lift the line", arch, 0, 3, 4, 14);
     arch.load(1, 0);
     bars("no load: 14 is not needed", arch, 0, 3, 4);
   }
@@ -314,14 +345,24 @@ public final class BoundaryLinesTests extends Boundary {
     bars("8, 11, 12, 14", Arches.arch(low, high, new int[] {0, 0, 0, 0, 0, 1, 0}), 8, 11, 12, 14);
   }
 
-  private void barsOfEdgesThatOnlyJustBar() {
+  private void edgesThatAreTouchedDoNotBar() {
     says("of those sets of up to 4 edges that no LINE (k may be below 0 without 14) keeps");
     StandingArch arch = Arches.sagging();
     arch.load(1, 0);
     arch.edges(1, 0, 2);
     is("a line just keeps them", arch.bar(-1), NOT);
-    arch.edges(1, 0, 1);
-    is("no line does", arch.bar(-1), 3);
+    bars("0, 3, 4 are just kept", three(new int[] {2, 0, 2, 0}, new int[] {4, 2, 2, 0}, 0, 0), 1, 4, 7);
+    bars("2, 5, 6 are just kept", three(new int[] {3, 0, 0, 0}, new int[] {4, 2, 0, 0}, 2, 0), 0, 3, 6, 14);
+    bars("3, 4, 7 are just kept", three(new int[] {4, 2, 5, 5}, new int[] {4, 4, 5, 6}, 2, 0), 0, 3, 4, 14);
+  }
+
+  private void edgesThatAreOnlyJustMissedBar() {
+    says("of those sets of up to 4 edges that no LINE (k may be below 0 without 14) keeps");
+    StandingArch arch = Arches.arch(new int[] {0, 0, 1}, new int[] {2, 0, 3}, new int[] {0, 0, 0});
+    arch.at(1, 1);
+    bars("too low by 1 by 20", arch, 0, 3, 4);
+    for (int i = 0; i <= 2; i++) arch.edges(i, new int[] {5, 5, 4}[i], new int[] {5, 7, 4}[i]);
+    bars("too high by 1 by 20", arch, 1, 2, 5);
   }
 
   // ---- 15 fits
