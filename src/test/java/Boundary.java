@@ -6,8 +6,8 @@ import java.util.List;
 
 /**
  * What the tests of single sentences share. Each method without arguments of a class below this one is the test of one
- * sentence of the document that names a boundary: the last number taken, the first refused, what is empty, full, or
- * cut down.
+ * sentence of the document. Most sentences name a boundary: the last number taken, the first refused, what is empty,
+ * full, or cut down.
  */
 abstract class Boundary {
   static final int LEAST = Integer.MIN_VALUE, GREATEST = Integer.MAX_VALUE;

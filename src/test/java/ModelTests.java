@@ -9,6 +9,7 @@ public final class ModelTests {
   private StandingArch arch;
   private ModelArch model;
   private String run;
+  private int calls;
   private int standing, barredByThree, barredByFour, barredByPush, noFactor, noStep;
 
   public static void main(String[] args) {
@@ -26,11 +27,15 @@ public final class ModelTests {
     arch = new StandingArch();
     model = new ModelArch();
     run = "seed " + seed + ": ";
+    calls = 0;
   }
 
   private int between(int from, int to) { return from + random.nextInt(to - from + 1); }
 
-  private void same(String call, long got, long want) { due.is(run + call, got, want); }
+  private void same(String call, long got, long want) {
+    calls++;
+    due.is(run + call, got, want);
+  }
 
   // ---- arches of many shapes, each asked everything
 
@@ -109,7 +114,8 @@ public final class ModelTests {
     begin(seed);
     int n = random.nextInt(3) == 0 ? 2 : between(2, 4);
     same("joints", arch.joints(n), model.joints(n));
-    for (int call = 0; call < 200 && due.wrong() == 0; call++) {
+    // One turn makes at most 31 calls, the questions behind them 39: an object is used for 512 at most.
+    for (int turn = 0; turn < 200 && calls <= 440 && due.wrong() == 0; turn++) {
       if (random.nextInt(12) == 0) sheetOfAnArch(); else oneCall();
     }
     for (int i = 0; i <= 6; i++)
