@@ -7,7 +7,7 @@ import java.util.TreeSet;
  * another's. The latter are looked up in drawn arches, by the public face alone.
  */
 public final class SentenceTests extends Boundary {
-  private static final int[] WILD = {LEAST, -1001, -21, -1, 0, 1, 2, 3, 6, 20, 1001, GREATEST};
+  private static final int[] WILD = {LEAST, -1001, -21, -1, 0, 1, 2, 3, 6, 7, 20, 28, 1001, GREATEST};
 
   public static void main(String[] args) throws IllegalAccessException { new SentenceTests().runAll(); }
 
@@ -41,7 +41,7 @@ public final class SentenceTests extends Boundary {
 
   private void eachCallAnswersWhatItsPromiseNames() {
     says("Refusals are answers");
-    for (int kind = 0; kind < 3; kind++) {
+    for (int kind = 0; kind < 4; kind++) {
       for (int a : WILD) {
         oneNumber(kind, a);
         for (int b : WILD) {
@@ -57,11 +57,14 @@ public final class SentenceTests extends Boundary {
     }
   }
 
-  /** A new object, one that stands with rows in its SHEETS, and one that does not stand. */
+  /** A new object, one that stands with rows in its SHEETS, one that does not stand, and one that has all there may be. */
   private static StandingArch object(int kind) {
     StandingArch arch = new StandingArch();
     if (kind == 1) Arches.furnish(arch);
     if (kind == 2) Arches.furnishBarred(arch);
+    if (kind == 3) arch.joints(6);
+    for (int s = 0; kind == 3 && s < 4; s++) arch.sheet(s, s % 3, 28);
+    for (int i = 1; kind == 3 && i < 6; i++) arch.load(i, 10);
     return arch;
   }
 
